@@ -465,22 +465,21 @@ public final class SiteChoice {
             return (usable >> place & 1) == 1;
         }
 
-        /**
-         * Gives places to the districts from one on. Lesser places come first, so of equal sums the
-         * first plan is met first, and only a lesser sum takes its stead.
-         */
-        private void give(int district, int opened, long soFar) {
+        /** Gives places to the districts from one on; the calls that stand open are as many as the districts. */
+        private void give(int from, int opened, long soFar) {
+            int district = nextWithNeed(from);
             if (district >= districts) {
                 keepIfBetter(soFar);
-                return;
+            } else if (!isHopeless(soFar + leastRest[district])) {
+                giveEachPlace(district, opened, soFar);
             }
-            if (isHopeless(soFar + leastRest[district])) {
-                return;
-            }
-            if (needs[district] == 0L) {
-                give(district + 1, opened, soFar);
-                return;
-            }
+        }
+
+        /**
+         * Lesser places come first, so of equal sums the first plan is met first, and only a lesser
+         * sum takes its stead.
+         */
+        private void giveEachPlace(int district, int opened, long soFar) {
             for (int p = 0; p < places; p++) {
                 int set = opened | 1 << p;
                 if (canTake(p, district) && mayBeOpen[set]) {
@@ -490,6 +489,14 @@ public final class SiteChoice {
                     roomLeft[p] += needs[district];
                 }
             }
+        }
+
+        private int nextWithNeed(int from) {
+            int district = from;
+            while (district < districts && needs[district] == 0L) {
+                district++;
+            }
+            return district;
         }
 
         private boolean isHopeless(long leastPossible) {
