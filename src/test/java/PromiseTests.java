@@ -454,6 +454,7 @@ public final class PromiseTests {
         due(18, "proved() stays", x.proved(), false);
         improveByPlaces();
         improveWhatIsNoPlan();
+        improveWithinLimits();
     }
 
     private static void improveByPlaces() {
@@ -473,6 +474,31 @@ public final class PromiseTests {
         due(18, "improve(1), the first of the places", x.improve(1), 1);
         due(18, "of(0)", x.of(0), 0);
         due(18, "improve(9), the barred one aside", x.improve(9), 0);
+    }
+
+    private static void improveWithinLimits() {
+        SiteChoice x = pair();
+        x.run(9);
+        x.place(0, 3, 9, 100);
+        x.walk(0, 2, 0);
+        x.budget(13);
+        due(18, "improve(9) above the budget", x.improve(9), 0);
+        x.budget(14);
+        x.noise(2, 4);
+        due(18, "improve(9) too near", x.improve(9), 0);
+        x.noise(2, 3);
+        due(18, "improve(9)", x.improve(9), 1);
+        due(18, "of(0)", x.of(0), 2);
+        x.place(900, 0, 0, 19);
+        x.walk(1, 3, 0);
+        due(18, "improve(9) with too little room", x.improve(9), 0);
+        x.place(0, 900, 0, 20);
+        x.walk(1, 4, 1);
+        x.fair(1, 0);
+        due(18, "improve(9) farther than the most", x.improve(9), 0);
+        x.fair(1, 1);
+        due(18, "improve(9)", x.improve(9), 1);
+        due(18, "of(1)", x.of(1), 4);
     }
 
     private static void improveWhatIsNoPlan() {
@@ -576,6 +602,42 @@ public final class PromiseTests {
         due(20, "open(1, 2)", x.open(1, 2), 0);
     }
 
+    /** Two places too near for one another, of which the better one changes twice as rooms fill. */
+    private static SiteChoice turns() {
+        SiteChoice x = new SiteChoice();
+        x.district(10);
+        x.district(20);
+        x.place(0, 0, 10, 30);
+        x.place(3, 4, 10, 33);
+        x.place(900, 900, 0, 1000);
+        for (int d = 0; d < 2; d++) {
+            x.walk(d, 0, 1);
+            x.walk(d, 1, 2);
+            x.walk(d, 2, 100);
+        }
+        return x;
+    }
+
+    private static void yearsReopened() {
+        SiteChoice x = turns();
+        due(19, "years(3) with both open", x.years(3), 20 + 30 + 44 + 48);
+        x.noise(0, 6);
+        due(19, "years(3), one opened again for its cost", x.years(3), 30 + 30 + 66 + 1224);
+        checkTurns(x);
+        x.noise(0, 0);
+        x.budget(19);
+        due(19, "years(3), both above the budget", x.years(3), 30 + 30 + 66 + 1224);
+        checkTurns(x);
+    }
+
+    private static void checkTurns(SiteChoice x) {
+        for (int year = 0; year < 3; year++) {
+            due(20, "open(0, " + year + ")", x.open(0, year), year == 1 ? 0 : 1);
+            due(20, "open(1, " + year + ")", x.open(1, year), year == 1 ? 1 : 0);
+            due(20, "open(2, " + year + "), only when given", x.open(2, year), year == 2 ? 1 : 0);
+        }
+    }
+
     private static void yearsWithoutNeeds() {
         SiteChoice x = new SiteChoice();
         x.place(0, 0, 0, 0);
@@ -608,6 +670,7 @@ public final class PromiseTests {
         years();
         yearsKept();
         yearsWithNoise();
+        yearsReopened();
         yearsWithoutNeeds();
         System.out.println(wrong == 0 ? "all answers are as due" : wrong + " answers are not as due");
         if (wrong != 0) {
