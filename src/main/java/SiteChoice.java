@@ -148,7 +148,8 @@ public final class SiteChoice {
     }
 
     public long bound() {
-        return town.leastThinkable();
+        search.load(town, NONE);
+        return search.leastThinkable();
     }
 
     public boolean proved() {
@@ -293,31 +294,6 @@ public final class SiteChoice {
             return count;
         }
 
-        long leastThinkable() {
-            long together = 0L;
-            for (int d = 0; d < districts; d++) {
-                if (needs[d] > 0L) {
-                    long nearest = nearestReach(d);
-                    if (nearest == NONE) {
-                        return NONE;
-                    }
-                    together += needs[d] * nearest;
-                }
-            }
-            return together;
-        }
-
-        private long nearestReach(int district) {
-            long nearest = NONE;
-            for (int p = 0; p < places; p++) {
-                long there = reach(district, p);
-                if (there != NONE && (nearest == NONE || there < nearest)) {
-                    nearest = there;
-                }
-            }
-            return nearest;
-        }
-
         boolean isTooNear(int one, int other) {
             long across = x[one] - x[other];
             long along = y[one] - y[other];
@@ -434,6 +410,12 @@ public final class SiteChoice {
             return sum != NONE;
         }
 
+        /** What all would walk if each went to its nearest place, or NONE when one can go to none. */
+        long leastThinkable() {
+            usable = ALL_PLACES;
+            return reckonLeastRest() ? leastRest[0] : NONE;
+        }
+
         /** False when a district with a need has no usable place at all. */
         private boolean reckonLeastRest() {
             leastRest[districts] = 0L;
@@ -465,7 +447,7 @@ public final class SiteChoice {
             return (usable >> place & 1) == 1;
         }
 
-        /** Gives places to the districts from one on; the calls that stand open are as many as the districts. */
+        /** Gives places to the districts from one on; each district leaves two calls open, so twelve at most. */
         private void give(int from, int opened, long soFar) {
             int district = nextWithNeed(from);
             if (district >= districts) {
