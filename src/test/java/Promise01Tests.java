@@ -90,6 +90,17 @@ public final class Promise01Tests extends Trial {
         due("all of the other", Towns.askAll(full), Towns.askAll(Towns.full()));
     }
 
+    /** "An object is used for at most 512 calls": the last of them answers as the first ones do. */
+    static void promise01AnswersFor512Calls() {
+        SiteChoice x = Towns.pair();
+        int calls = 8;
+        while (calls < 511) {
+            x.walk(0, 0, calls % 2);
+            calls++;
+        }
+        due("run(4), the 512th call", x.run(4), 0);
+    }
+
     public static void main(String[] args) {
         runAll(Promise01Tests.class);
     }

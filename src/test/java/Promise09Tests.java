@@ -81,6 +81,10 @@ public final class Promise09Tests extends Trial {
         due("run(9)", x.run(9), 2);
     }
 
+    static void promise09AskingChangesNothing() {
+        changesNothing("ways()", x -> x.ways() >= 0);
+    }
+
     public static void main(String[] args) {
         runAll(Promise09Tests.class);
     }

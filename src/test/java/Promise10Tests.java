@@ -204,6 +204,14 @@ public final class Promise10Tests extends Trial {
         due("plan", Towns.plan(x, 1), "0: 10");
     }
 
+    /** A run() that found no plan leaves nothing behind: the next one finds the best, not just some plan. */
+    static void promise10BestAfterNoPlan() {
+        SiteChoice x = Towns.stuck();
+        x.budget(12);
+        due("run(4)", x.run(4), 0);
+        due("plan", Towns.plan(x, 3), "1 0 -1: 80");
+    }
+
     public static void main(String[] args) {
         runAll(Promise10Tests.class);
     }

@@ -85,6 +85,13 @@ public final class Promise11Tests extends Trial {
         due("chosen(1)", x.chosen(1), true);
     }
 
+    static void promise11AskingChangesNothing() {
+        for (int p = 0; p < 5; p++) {
+            int place = p;
+            changesNothing("chosen(" + p + ")", x -> x.chosen(place) || !x.chosen(place));
+        }
+    }
+
     public static void main(String[] args) {
         runAll(Promise11Tests.class);
     }

@@ -65,6 +65,13 @@ public final class Promise12Tests extends Trial {
         due("plan", Towns.plan(x, 4), "3 3 -1 3: 0");
     }
 
+    static void promise12AskingChangesNothing() {
+        for (int d = 0; d < 6; d++) {
+            int district = d;
+            changesNothing("of(" + d + ")", x -> x.of(district) >= NONE);
+        }
+    }
+
     public static void main(String[] args) {
         runAll(Promise12Tests.class);
     }

@@ -55,6 +55,10 @@ public final class Promise13Tests extends Trial {
         due("bound()", x.bound(), 6000000);
     }
 
+    static void promise13AskingChangesNothing() {
+        changesNothing("sum()", x -> x.sum() >= NONE);
+    }
+
     public static void main(String[] args) {
         runAll(Promise13Tests.class);
     }

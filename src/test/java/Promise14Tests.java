@@ -75,6 +75,10 @@ public final class Promise14Tests extends Trial {
         due("sum()", x.sum(), 80);
     }
 
+    static void promise14AskingChangesNothing() {
+        changesNothing("bound()", x -> x.bound() >= NONE);
+    }
+
     public static void main(String[] args) {
         runAll(Promise14Tests.class);
     }

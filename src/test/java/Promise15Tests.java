@@ -118,6 +118,10 @@ public final class Promise15Tests extends Trial {
         due("proved() once it has ended", x.proved(), false);
     }
 
+    static void promise15AskingChangesNothing() {
+        changesNothing("proved()", x -> x.proved() || !x.proved());
+    }
+
     public static void main(String[] args) {
         runAll(Promise15Tests.class);
     }

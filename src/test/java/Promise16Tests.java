@@ -149,6 +149,13 @@ public final class Promise16Tests extends Trial {
         due("clash(1)", x.clash(1), NONE);
     }
 
+    static void promise16AskingChangesNothing() {
+        for (int k = 0; k < 6; k++) {
+            int at = k;
+            changesNothing("clash(" + k + ")", x -> x.clash(at) >= NONE);
+        }
+    }
+
     public static void main(String[] args) {
         runAll(Promise16Tests.class);
     }

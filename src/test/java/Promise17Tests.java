@@ -142,6 +142,27 @@ public final class Promise17Tests extends Trial {
         due("sum()", x.sum(), 80);
     }
 
+    /** The costs of the others count still: at the budget, not above. */
+    static void promise17CostsOfTheOthersCount() {
+        SiteChoice x = Towns.needs(10, 10);
+        x.place(0, 0, 1, 10);
+        x.place(0, 0, 6, 10);
+        x.place(0, 0, 0, 20);
+        Towns.walks(x, 0, 1, 100, 9);
+        Towns.walks(x, 1, 100, 1, 9);
+        x.budget(5);
+        due("gain(0) with the other above the budget", x.gain(0), 0);
+        x.budget(6);
+        due("gain(0) with the other at the budget", x.gain(0), 80);
+    }
+
+    /** A run() that found no plan leaves nothing behind: the sums are those of best plans. */
+    static void promise17AfterNoPlan() {
+        SiteChoice x = Towns.stuck();
+        x.budget(12);
+        due("gain(0)", x.gain(0), 30);
+    }
+
     public static void main(String[] args) {
         runAll(Promise17Tests.class);
     }

@@ -279,6 +279,31 @@ public final class Promise18Tests extends Trial {
         due("proved() that is not", moved.proved(), false);
     }
 
+    /** With as many districts and places as there can be, and the last ones exchanged. */
+    static void promise18LastOfAll() {
+        SiteChoice x = Towns.full();
+        due("of(5)", x.of(5), 4);
+        x.walk(5, 4, 10000);
+        x.walk(5, 3, 9999);
+        due("improve(1)", x.improve(1), 1);
+        due("of(5), the first place that is nearer", x.of(5), 1);
+        due("improve(0)", x.improve(0), 0);
+        SiteChoice last = Towns.full();
+        last.walk(1, 4, 0);
+        last.bar(0);
+        due("improve(9) with a place barred that is given", last.improve(9), 0);
+        due("of(1)", last.of(1), 3);
+    }
+
+    /** What years() looked at last is nothing to an exchange. */
+    static void promise18AfterYears() {
+        SiteChoice x = farFromAll();
+        x.budget(1);
+        due("years(1)", x.years(1), 1 + 12);
+        due("improve(1)", x.improve(1), 1);
+        due("plan", Towns.plan(x, 1), "1: 16");
+    }
+
     public static void main(String[] args) {
         runAll(Promise18Tests.class);
     }

@@ -217,6 +217,25 @@ public final class Promise19Tests extends Trial {
         due("years(1)", x.years(1), NONE);
     }
 
+    /** "and were not in the year before": before the first year none were open. */
+    static void promise19CostOfTheFirstYear() {
+        SiteChoice x = Towns.needs(1);
+        x.place(0, 0, 10, 1);
+        x.place(0, 0, 5, 1);
+        Towns.walks(x, 0, 0, 1);
+        due("years(1)", x.years(1), 6);
+        due("open", Towns.opened(x, 2, 1), "01");
+        due("years(6)", x.years(6), 10);
+        due("open", Towns.opened(x, 2, 6), "10 10 10 10 10 10");
+    }
+
+    /** A run() that found no plan leaves nothing behind: the sums are those of best plans. */
+    static void promise19AfterNoPlan() {
+        SiteChoice x = Towns.stuck();
+        x.budget(12);
+        due("years(1)", x.years(1), 12 + 80);
+    }
+
     public static void main(String[] args) {
         runAll(Promise19Tests.class);
     }

@@ -121,6 +121,13 @@ public final class Promise20Tests extends Trial {
         due("open(4, 0)", x.open(4, 0), NONE);
     }
 
+    static void promise20AskingChangesNothing() {
+        for (int p = 0; p < 5; p++) {
+            int place = p;
+            changesNothing("open(" + p + ", 1)", x -> x.open(place, 1) >= NONE);
+        }
+    }
+
     public static void main(String[] args) {
         runAll(Promise20Tests.class);
     }

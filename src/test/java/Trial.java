@@ -61,17 +61,17 @@ abstract class Trial {
         }
     }
 
-    /** A refused call leaves every town as its twin is that was not asked. */
-    static void changesNothing(String call, Predicate<SiteChoice> isRefused) {
+    /** A call that is refused, or but a question, leaves every town as its twin is that had no such call. */
+    static void changesNothing(String call, Predicate<SiteChoice> isAsDue) {
         for (Supplier<SiteChoice> town : Towns.all()) {
-            changesNothing(call, town, isRefused);
+            changesNothing(call, town, isAsDue);
         }
     }
 
-    static void changesNothing(String call, Supplier<SiteChoice> town, Predicate<SiteChoice> isRefused) {
+    static void changesNothing(String call, Supplier<SiteChoice> town, Predicate<SiteChoice> isAsDue) {
         SiteChoice asked = town.get();
         SiteChoice twin = town.get();
-        due(call + " being refused", isRefused.test(asked), true);
+        due(call + " answering as due", isAsDue.test(asked), true);
         due("all after " + call, Towns.askAll(asked), Towns.askAll(twin));
     }
 
